@@ -32,9 +32,8 @@ public final class BrownClock {
     private static final int GROUP = 100000;
     private static final int MOST_ROUNDS = 60;
 
-    private static final int OFFSET = 5;
-    /** Where State.tell has what the forecast of each number asks for. */
-    private static final int[] AHEAD = {1, 2, OFFSET, 8, 9, 12};
+    /** Under which number State.tell has what each number of the forecast asks for. */
+    private static final int[] AHEAD = {1, 2, 5, 8, 9, 12};
 
     private final Text text;
     private final State state;
@@ -744,7 +743,7 @@ public final class BrownClock {
                     return crystal.error;
                 case 4:
                     return crystal.correction;
-                case OFFSET:
+                case 5:
                     return offset();
                 case 6:
                     return crystal.valid ? 1 : 0;

@@ -155,6 +155,7 @@ final class ScriptTest {
         succeeds(clock, 90000);
         succeeds(clock, 91599);
         fails(clock, 91601);
+        fails(clock, 92000);
     }
 
     private static void promise29OtherGroups() {
@@ -187,6 +188,7 @@ final class ScriptTest {
         BrownClock clock = new BrownClock();
         for (int n : new int[] {Integer.MIN_VALUE, -1, 0, 4, Integer.MAX_VALUE}) {
             Check.refuses("runScript(" + n + ", 70000)", IllegalArgumentException.class, () -> clock.runScript(n, 70000));
+            Check.refuses("runScript(" + n + ", 0)", IllegalArgumentException.class, () -> clock.runScript(n, 0));
         }
         long limit = 1;
         for (int n = 1; n <= 3; n++) {

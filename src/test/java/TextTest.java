@@ -29,6 +29,8 @@ final class TextTest {
         promise4RandomTexts();
         promise5Load();
         promise5LoadForgets();
+        promise5LoadAfterForecasts();
+        promise5LoadTwice();
         promise5LoadRefuses();
     }
 
@@ -251,6 +253,48 @@ final class TextTest {
         Check.refuses("undo after load", IllegalStateException.class, clock::undo);
         Check.refuses("restore(0) after load", IllegalStateException.class, () -> clock.restore(0));
         Check.refuses("restore(1) after load", IllegalStateException.class, () -> clock.restore(1));
+    }
+
+    /** Forecasts and scripts go through states of their own, of which nothing may come into the one that is loaded. */
+    private static void promise5LoadAfterForecasts() {
+        BrownClock clock = View.typed(HEAD + "a0001p1r0200");
+        clock.load();
+        String fresh = View.of(clock);
+        clock.pass(10);
+        clock.level(0);
+        clock.pass(3);
+        clock.battery(0);
+        clock.pass(3);
+        clock.battery(9);
+        clock.level(4);
+        clock.pass(1);
+        clock.setAlarm(1, 2);
+        clock.pass(1);
+        clock.level(9);
+        clock.guard(0, true);
+        clock.correct(-7);
+        clock.setTime(100);
+        clock.tamper(0);
+        for (int r = 0; r < 8; r++) {
+            clock.write(r, 99);
+        }
+        clock.pass(10);
+        clock.ahead(10, 0);
+        Check.due("load after ahead", clock.load(), 1);
+        Check.due("the clock that is loaded after ahead", View.of(clock), fresh);
+    }
+
+    private static void promise5LoadTwice() {
+        for (String parts : new String[] {ALL_REGISTERS, "r0001", "p0p1p2", "a0001a0002a0003a0004"}) {
+            BrownClock clock = View.typed(HEAD + parts);
+            int set = clock.load();
+            String fresh = View.of(clock);
+            Check.due("errorPosition again", clock.errorPosition(), BrownClock.NONE);
+            Check.due("load again", clock.load(), set);
+            Check.due("the clock that is loaded again", View.of(clock), fresh);
+            clock.append('x');
+            Check.due("errorPosition with a fault", clock.errorPosition(), 9 + parts.length());
+        }
     }
 
     private static void promise5LoadRefuses() {
