@@ -13,6 +13,9 @@ public final class AllTests {
         ForecastTest.run();
         ScriptTest.run();
         SlotTest.run();
+        TermEdgeTest.run();
+        PromiseEdgeTest.run();
+        RefusalTest.run();
         RandomRunTest.run();
         System.out.println(Check.summary());
         if (Check.failures() != 0) {

@@ -44,7 +44,7 @@ final class Check {
         return passed + " checks as due, " + failed + " not";
     }
 
-    private static Class<?> thrownBy(Call call) {
+    static Class<?> thrownBy(Call call) {
         try {
             call.run();
             return null;

@@ -14,6 +14,7 @@ final class ScriptTest {
         promise29AsksRegister();
         promise29AsksOffset();
         promise29OtherGroups();
+        promise29EveryGroup();
         promise29Order();
         promise29ChangesNothing();
         promise29Refuses();
@@ -163,6 +164,55 @@ final class ScriptTest {
         fails(clock, 0);
         fails(clock, 1);
         fails(clock, 9999);
+    }
+
+    /** Each of the 100000 groups as a script of one command, in each domain. */
+    private static void promise29EveryGroup() {
+        int[] levels = {6, 5, 2, 2};
+        for (int domain = 0; domain <= 3; domain++) {
+            BrownClock clock = null;
+            for (int group = 0; group <= 99999; group++) {
+                if (group % 400 == 0) {
+                    clock = used();
+                    clock.pass(2);
+                    clock.level(levels[domain]);
+                    clock.battery(domain == 3 ? 0 : 9);
+                }
+                boolean allowed = isAllowed(domain, group);
+                Check.due("runScript(1, " + group + ") in domain " + domain, clock.runScript(1, group),
+                        allowed ? BrownClock.NONE : 0);
+            }
+        }
+    }
+
+    private static boolean isAllowed(int domain, int group) {
+        int second = group / 1000 % 10;
+        int number = group % 1000;
+        boolean zeros = second == 0 && number <= 9;
+        int[] registers = {0, 0, 0, domain == 3 ? 0 : 123, 0, 0, 0, 0};
+        int offset = domain == 3 ? -120 : 120;
+        switch (group / 10000) {
+            case 1:
+                return group >= 10001 && group <= 11440;
+            case 2:
+                return zeros;
+            case 3:
+                return second <= 1 && number <= 500 && domain == 0;
+            case 4:
+                return second <= 7 && number <= 255 && domain == 0;
+            case 5:
+                return zeros && number <= 2;
+            case 6:
+                return second <= 3 && number == 0;
+            case 7:
+                return zeros && number == domain;
+            case 8:
+                return second <= 7 && number == registers[second];
+            case 9:
+                return second == 0 && offset <= number || second == 1 && offset <= -number;
+            default:
+                return false;
+        }
     }
 
     private static void promise29Order() {

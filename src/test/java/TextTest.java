@@ -27,6 +27,7 @@ final class TextTest {
         promise4Pins();
         promise4Registers();
         promise4RandomTexts();
+        promise4EveryCharacterAtEveryPlace();
         promise5Load();
         promise5LoadForgets();
         promise5LoadAfterForecasts();
@@ -161,6 +162,24 @@ final class TextTest {
             }
             text.setLength(Math.min(60, random.nextBoolean() ? text.length() : random.nextInt(text.length())));
             position(text.toString(), slowPosition(text.toString()));
+        }
+    }
+
+    /** Behind each beginning of some texts, each of the 256 characters: is it allowed there, and is it the text's end? */
+    private static void promise4EveryCharacterAtEveryPlace() {
+        String[] texts = {
+            "K+5009999a2359a0000a1959p0p1p2r0255r1249r2199a0000", "K-4990000r7000r6250p2p1p0a2000a0100",
+            HEAD + "a0000a0000a0000a0000p0p1p2r7000r6000r5000r4000r3", HEAD + ALL_REGISTERS + "p2p0p1",
+        };
+        for (String text : texts) {
+            for (int length = 0; length <= text.length(); length++) {
+                String beginning = text.substring(0, length);
+                for (int c = 0; c <= 255; c++) {
+                    String longer = beginning + (char) c;
+                    int due = isWhole(longer) ? BrownClock.NONE : canGoOn(longer) ? length + 1 : length;
+                    position(longer, due);
+                }
+            }
         }
     }
 
