@@ -17,6 +17,7 @@ public final class AllTests {
         PromiseEdgeTest.run();
         RefusalTest.run();
         RandomRunTest.run();
+        ReadmeTest.run();
         System.out.println(Check.summary());
         if (Check.failures() != 0) {
             System.exit(1);
